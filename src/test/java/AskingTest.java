@@ -436,8 +436,8 @@ final class AskingTest {
             bench.sector(track, 1, 1, 9, track != 1);
             bench.weak(track, 30, true);
             Benches.readTimes(bench, track, 2 + track);
-            Check.same("24: sectors and turns", bench.digest(), fold(bench));
         }
+        Check.same("24: sectors and turns", bench.digest(), fold(bench));
         bench.copy(0, 2, false);
         bench.copy(1, 0, true);
         Check.same("24: copies", bench.digest(), fold(bench));

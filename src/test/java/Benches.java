@@ -1,7 +1,5 @@
 /** Benches that several tests begin with, and rows of CELLS as texts of 0 and 1. */
 final class Benches {
-    static final String MARK = "1000010001";
-
     private Benches() {
     }
 
@@ -20,7 +18,8 @@ final class Benches {
     /** The BITS of a TRACK's row from a place on. */
     static String rowFrom(FluxBench bench, int track, int from) {
         StringBuilder made = new StringBuilder();
-        for (int place = from; place < bench.ofTrack(track, 1); place++) {
+        int cells = bench.ofTrack(track, 1);
+        for (int place = from; place < cells; place++) {
             made.append(bench.ofCell(track, place, 0));
         }
         return made.toString();
@@ -28,7 +27,8 @@ final class Benches {
 
     static String voteOf(FluxBench bench, int track) {
         StringBuilder made = new StringBuilder();
-        for (int place = 0; place < bench.ofTrack(track, 3); place++) {
+        int cells = bench.ofTrack(track, 3);
+        for (int place = 0; place < cells; place++) {
             made.append(bench.vote(track, place));
         }
         return made.toString();
@@ -53,6 +53,11 @@ final class Benches {
     static void shortSector(FluxBench bench, int track, int number, int datum) {
         bench.mark(track);
         writeAll(bench, track, number, 1, datum, (number + 1 + datum) % 256);
+    }
+
+    /** What one finds in the VOTE of TRACK 0: SECTORS, GOOD ones, STRAY ones, and whether one is CUT. */
+    static String findsOf(FluxBench bench) {
+        return bench.ofTrack(0, 5) + " " + bench.ofTrack(0, 6) + " " + bench.ofTrack(0, 7) + " " + bench.ofTrack(0, 8);
     }
 
     /** All values of a SECTOR, as ofSector() tells them. */

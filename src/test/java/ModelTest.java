@@ -2,7 +2,7 @@ import java.util.Random;
 
 /** Long mixed runs of calls, right and wrong ones, each answer held against BenchModel's. */
 final class ModelTest {
-    private static final int RUNS = 300;
+    private static final int RUNS = 400;
     private static final int CALLS = 512;
     private static final int[] NUMBERS = {0, 1, 2, 3, 7, 128, 255, 256, -1};
     private static final int[] SEEN = new int[64];
@@ -10,6 +10,7 @@ final class ModelTest {
     private static Random random;
     private static FluxBench bench;
     private static BenchModel model;
+    private static int made;
 
     /** One call on both; what each answers, as a text. */
     private interface Pair {
@@ -50,6 +51,7 @@ final class ModelTest {
     }
 
     private static void both(String name, Pair pair) {
+        made++;
         String due = answer(pair, false);
         Check.sameText(name, answer(pair, true), due);
     }
@@ -72,26 +74,9 @@ final class ModelTest {
                 }
             });
         } else if (kind < 4 || kind > 6) {
-            both("mark", new Pair() {
-                public String ofBench() {
-                    return "" + bench.mark(track);
-                }
-
-                public String ofModel() {
-                    return "" + model.mark(track);
-                }
-            });
+            markOne(track);
         } else {
-            int value = below(20) == 0 ? below(2) * 257 - 1 : below(2) == 0 ? below(256) : below(5);
-            both("write", new Pair() {
-                public String ofBench() {
-                    return "" + bench.write(track, value);
-                }
-
-                public String ofModel() {
-                    return "" + model.write(track, value);
-                }
-            });
+            byteOne(track, below(20) == 0 ? below(2) * 257 - 1 : below(2) == 0 ? below(256) : below(5));
         }
     }
 
@@ -345,9 +330,43 @@ final class ModelTest {
         }
     }
 
+    private static void byteOne(int track, int value) {
+        both("write", new Pair() {
+            public String ofBench() {
+                return "" + bench.write(track, value);
+            }
+
+            public String ofModel() {
+                return "" + model.write(track, value);
+            }
+        });
+    }
+
+    private static void markOne(int track) {
+        both("mark", new Pair() {
+            public String ofBench() {
+                return "" + bench.mark(track);
+            }
+
+            public String ofModel() {
+                return "" + model.mark(track);
+            }
+        });
+    }
+
+    /** A MARK, NUMBER and COUNT without what is due behind them: CUT, if nothing comes. */
+    private static void headOne() {
+        int track = anyTrack();
+        markOne(track);
+        byteOne(track, NUMBERS[below(8)]);
+        byteOne(track, 1 + below(4));
+    }
+
     private static void callOne(int run) {
         int kind = below(100);
-        if (kind < 5) {
+        if (kind < 2) {
+            headOne();
+        } else if (kind < 6) {
             beginOne();
         } else if (kind < 25) {
             writeOne(run);
@@ -377,10 +396,13 @@ final class ModelTest {
         for (int code = 0; code < 3; code++) {
             Check.same("track", bench.track(code), model.track(code));
         }
-        for (int call = 0; call < CALLS; call++) {
+        made = 3;
+        // A step makes at most three calls, and the digest is one more.
+        for (int step = 0; made + 4 <= CALLS; step++) {
             callOne(run);
-            if (call % 16 == 0) {
+            if (step % 10 == 0) {
                 Check.same("digest in run " + run, bench.digest(), model.digest());
+                made++;
                 noteSeen();
             }
         }

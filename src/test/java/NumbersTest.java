@@ -41,8 +41,7 @@ final class NumbersTest {
         Check.refusesPlace("ofSector of " + n, bench, () -> bench.ofSector(0, n, n));
     }
 
-    public static void main(String[] args) {
-        FluxBench empty = new FluxBench();
+    private static FluxBench withFourTracks() {
         FluxBench bench = Benches.withTrack(2);
         bench.track(0);
         bench.track(1);
@@ -52,7 +51,13 @@ final class NumbersTest {
             bench.sector(track, 2, 1, 255, true);
             Benches.readTimes(bench, track, 3);
         }
+        return bench;
+    }
+
+    public static void main(String[] args) {
+        FluxBench empty = new FluxBench();
         for (int n : FAR) {
+            FluxBench bench = withFourTracks();
             noTrack(bench, n);
             noneSuch(bench, n);
             boolean isPlace = n >= 0 && n < bench.ofTrack(0, 1);
@@ -72,6 +77,7 @@ final class NumbersTest {
                 noPlace(full, n);
             }
         }
+        FluxBench bench = withFourTracks();
         Check.refusesArgument("write", bench, () -> bench.write(0, Integer.MIN_VALUE));
         Check.refusesArgument("sector", bench, () -> bench.sector(0, 1, 1, Integer.MIN_VALUE, true));
         Check.refusesArgument("sector", bench, () -> bench.sector(0, Integer.MAX_VALUE, 1, 1, true));

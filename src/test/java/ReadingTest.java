@@ -178,7 +178,8 @@ final class ReadingTest {
 
     private static void promise11Raw() {
         FluxBench bench = forCopies();
-        String vote = Benches.voteOf(bench, 0);
+        String vote = Cells.MARK + Cells.grouped(7, 1, 3, 11) + "1" + Cells.MARK + Cells.grouped(8, 1, 3, 13) + "1"
+            + Cells.MARK + Cells.grouped(9, 4, 4, 3, 2, 1, 23) + "1" + Cells.MARK + Cells.grouped(7, 2, 5, 0, 14) + "1";
         bench.weak(0, 1, true);
         bench.dirt(0, 2, 3);
         Check.same("11: the vote", bench.copy(0, 1, true), vote.length());

@@ -1,20 +1,5 @@
 /** Promises 1 to 9: what is written, and what spoils it. */
 final class WritingTest {
-    private static final int[] GROUPS = {10, 11, 18, 19, 14, 15, 22, 23, 9, 25, 26, 27, 13, 29, 30, 21};
-
-    private static String group(int half) {
-        String digits = "0000" + Integer.toBinaryString(GROUPS[half]);
-        return digits.substring(digits.length() - 5);
-    }
-
-    private static String grouped(int... values) {
-        StringBuilder made = new StringBuilder();
-        for (int value : values) {
-            made.append(group(value / 16)).append(group(value % 16));
-        }
-        return made.toString();
-    }
-
     private static void promise1NewObject() {
         FluxBench bench = new FluxBench();
         int[] due = {0, 8, 0, 0, 0, 0, 0};
@@ -64,7 +49,7 @@ final class WritingTest {
         bench.track(2);
         for (int half = 0; half < 16; half++) {
             Check.same("4: code 2", bench.write(1, 16 * half + (15 - half)), 10 * half + 10);
-            Check.sameText("4: cells of code 2", Benches.rowFrom(bench, 1, 10 * half), group(half) + group(15 - half));
+            Check.sameText("4: cells of code 2", Benches.rowFrom(bench, 1, 10 * half), Cells.group(half) + Cells.group(15 - half));
         }
         Check.same("4: steady", bench.ofCell(1, 3, 2), 0);
         Check.same("4: clean", bench.ofCell(1, 3, 3), 0);
@@ -126,7 +111,7 @@ final class WritingTest {
     private static void promise5Mark() {
         FluxBench bench = Benches.withTrack(1);
         Check.same("5: ten cells", bench.mark(0), 10);
-        Check.sameText("5: its cells", Benches.rowFrom(bench, 0, 0), Benches.MARK);
+        Check.sameText("5: its cells", Benches.rowFrom(bench, 0, 0), Cells.MARK);
         bench.write(0, 255);
         for (int cells = 36; cells <= 396; cells += 10) {
             Check.same("5: one more", bench.mark(0), cells);
@@ -145,18 +130,18 @@ final class WritingTest {
         FluxBench bench = Benches.withTrack(2);
         bench.speed(7);
         Check.same("6: count 1", bench.sector(0, 1, 1, 255, true), 51);
-        Check.sameText("6: its cells", Benches.rowFrom(bench, 0, 0), Benches.MARK + grouped(1, 1, 255, 1) + "1");
+        Check.sameText("6: its cells", Benches.rowFrom(bench, 0, 0), Cells.MARK + Cells.grouped(1, 1, 255, 1) + "1");
         Check.same("6: the speed is its width", bench.ofCell(0, 50, 1), 7);
         Check.same("6: wrong", bench.sector(0, 1, 1, 255, false), 102);
-        Check.sameText("6: its cells", Benches.rowFrom(bench, 0, 51), Benches.MARK + grouped(1, 1, 255, 2) + "1");
+        Check.sameText("6: its cells", Benches.rowFrom(bench, 0, 51), Cells.MARK + Cells.grouped(1, 1, 255, 2) + "1");
         Check.same("6: a wrong sum wraps", bench.sector(0, 254, 1, 0, false), 153);
-        Check.sameText("6: its cells", Benches.rowFrom(bench, 0, 102), Benches.MARK + grouped(254, 1, 0, 0) + "1");
+        Check.sameText("6: its cells", Benches.rowFrom(bench, 0, 102), Cells.MARK + Cells.grouped(254, 1, 0, 0) + "1");
         Check.same("6: four bytes", bench.sector(0, 255, 4, 0x7F020304, true), 234);
-        Check.sameText("6: its cells", Benches.rowFrom(bench, 0, 153), Benches.MARK + grouped(255, 4, 4, 3, 2, 127, 139) + "1");
+        Check.sameText("6: its cells", Benches.rowFrom(bench, 0, 153), Cells.MARK + Cells.grouped(255, 4, 4, 3, 2, 127, 139) + "1");
         Check.same("6: two bytes of more", bench.sector(0, 9, 2, 0x7F020304, true), 295);
-        Check.sameText("6: its cells", Benches.rowFrom(bench, 0, 234), Benches.MARK + grouped(9, 2, 4, 3, 18) + "1");
+        Check.sameText("6: its cells", Benches.rowFrom(bench, 0, 234), Cells.MARK + Cells.grouped(9, 2, 4, 3, 18) + "1");
         Check.same("6: three bytes", bench.sector(0, 0, 3, Integer.MAX_VALUE, true), 366);
-        Check.sameText("6: its cells", Benches.rowFrom(bench, 0, 295), Benches.MARK + grouped(0, 3, 255, 255, 255, 0) + "1");
+        Check.sameText("6: its cells", Benches.rowFrom(bench, 0, 295), Cells.MARK + Cells.grouped(0, 3, 255, 255, 255, 0) + "1");
         Check.refusesState("6: it would be 417", bench, () -> bench.sector(0, 0, 1, 0, true));
         Check.refusesArgument("6: the count is looked at first", bench, () -> bench.sector(0, 0, 5, 0, true));
     }
