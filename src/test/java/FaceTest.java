@@ -118,8 +118,8 @@ final class FaceTest {
     }
 
     private static void sourceKeepsTheRules() throws IOException {
-        String path = System.getProperty("source", "src/main/java/FluxBench.java");
-        String text = Files.readString(Path.of(path)).replaceAll("(?s)/\\*.*?\\*/", "").replaceAll("//[^\n]*", "");
+        Path path = Path.of(System.getProperty("root", "."), "src/main/java/FluxBench.java");
+        String text = Files.readString(path).replaceAll("(?s)/\\*.*?\\*/", "").replaceAll("//[^\n]*", "");
         for (String word : LEFT_OUT) {
             String pattern = word.matches("\\w+") ? "\\b\\w*" + word + "\\b" : word;
             Check.same("the source is without " + word, Pattern.compile(pattern).matcher(text).find(), false);

@@ -49,6 +49,15 @@ final class SectorEdgesTest {
         Check.sameText("that sector", Benches.sectorOf(bench, 0, 0), "11 1 1 1 2 0 -1 -1 -1");
     }
 
+    /** The same behind each other kind of STRAY ones: NUMBER is NONE, or COUNT is not 1 to 4. */
+    private static void itsLastCellBeginsNoMarkBehindAnyStrayOne() {
+        String overlap = Cells.MARK + Cells.MARK.substring(1);
+        finds("COUNT is 0", overlap + "0".repeat(23) + "1", "0 0 1 0");
+        finds("COUNT is 5", overlap + "0".repeat(7) + Cells.paired(5) + "1", "0 0 1 0");
+        String groups = overlap + Cells.paired(0);
+        Check.sameText("NUMBER is NONE", Benches.findsOf(Patterns.read(2, groups.substring(0, 33) + "1")), "0 0 1 0");
+    }
+
     /** "STRAY, if the row ends ahead of the end of NUMBER and COUNT": at it, one CELL ahead, and at the MARK. */
     private static void theEndOfNumberAndCount() {
         for (int code = 0; code <= 2; code += 2) {
@@ -459,6 +468,7 @@ final class SectorEdgesTest {
         aMarkIsLookedForFromPlace0ToTheEnd();
         aMarkIsAllOfItsTenCells();
         oneGoesOnJustBehindAStrayMark();
+        itsLastCellBeginsNoMarkBehindAnyStrayOne();
         theEndOfNumberAndCount();
         aNumberOrCountThatIsNoneIsStray();
         aCountThatIsNot1To4IsStray();

@@ -483,6 +483,20 @@ final class TurnEdgesTest {
         Check.sameDouble("one of sixteen and one", odd.sure(0), 1.0 - 1.0 / 17);
     }
 
+    /** "1.0 less (double) UNSURE / (..)": in that order, where the VOTE / (..) is another double. */
+    private static void sureIsReckonedInItsOrder() {
+        FluxBench bench = readAs("1");
+        bench.dirt(0, 4, 4);
+        bench.dirt(0, 6, 6);
+        bench.dirt(0, 8, 8);
+        bench.dirt(0, 14, 15);
+        bench.read(0);
+        Check.same("the vote", bench.ofTrack(0, 3), 14);
+        Check.same("unsure", bench.ofTrack(0, 4), 5);
+        Check.same("14 of 19 is another double", 14.0 / 19 == 1.0 - 5.0 / 19, false);
+        Check.sameDouble("five of fourteen and five", bench.sure(0), 1.0 - 5.0 / 19);
+    }
+
     /** "IllegalStateException if its row is empty" */
     private static void anEmptyRowIsNotRead() {
         FluxBench bench = Benches.withTrack(2);
@@ -559,6 +573,7 @@ final class TurnEdgesTest {
         moreTurnsTell();
         unsureIsBothTogether();
         sureHasItsEnds();
+        sureIsReckonedInItsOrder();
         anEmptyRowIsNotRead();
         turnsGoFrom0ToTheLatest();
         theWordWrapsAround();
